@@ -683,12 +683,12 @@ public final class NoticeMarket {
             bestWeight = 0L;
             for (int place = 0; place < MOST_PLACES; place++) chosen[place] = NONE;
             long free = without == NONE ? offeredSet : offeredSet & ~(1L << without);
-            fill(0, free, 0L);
+            fillFrom(0, free, 0L);
             return bestSum();
         }
 
-        /** Fills the places from this one on with free campaigns; it goes at most four places deep. */
-        private void fill(int place, long free, long sum) {
+        /** Tries what may stand at this place and at those behind it; it goes no deeper than the places do. */
+        private void fillFrom(int place, long free, long sum) {
             if (place >= places) {
                 keepIfBetter(sum);
                 return;
@@ -699,12 +699,14 @@ public final class NoticeMarket {
                 if ((free >>> c & 1L) == 0L) continue;
                 long weight = weights[place][c];
                 if (most + weight <= bestWeight) return;
-                trial[place] = c;
-                fill(place + 1, free & ~(apartFrom[c] | 1L << c), sum + weight);
+                tryAt(place, c, free & ~(apartFrom[c] | 1L << c), sum + weight);
             }
-            if (most <= bestWeight) return;
-            trial[place] = NONE;
-            fill(place + 1, free, sum);
+            if (most > bestWeight) tryAt(place, NONE, free, sum);
+        }
+
+        private void tryAt(int place, int c, long freeThen, long sumThen) {
+            trial[place] = c;
+            fillFrom(place + 1, freeThen, sumThen);
         }
 
         private void keepIfBetter(long sum) {

@@ -134,7 +134,7 @@ public final class OutcomeTest {
       }
       tick = m.tick(1 + 5 * i);
     }
-    for (int i = 0; i < 90; i++) tick = m.tick(100);
+    for (int i = 0; i < 70; i++) tick = m.tick(100);
     due.is("late", m.draw(1, 99), drawn(tick, 99, 1));
   }
 

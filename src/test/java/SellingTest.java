@@ -97,17 +97,19 @@ public final class SellingTest {
     due.is("then the house", m.sale(5, 4), 2);
   }
 
+  /** Seven pages of four places, so that 1000 sales are there before the calls are used up. */
   private static void promise13Full() {
     NoticeMarket m = new NoticeMarket();
-    m.page(((100 * 128 + 100) * 128 + 100) * 128 + 100);
+    for (int page = 0; page < 7; page++) m.page(((100 * 128 + 100) * 128 + 100) * 128 + 100);
     m.page(100);
     for (int c = 0; c < 4; c++) m.campaign(20, 0, 0);
     for (int i = 0; i < 249; i++) {
-      m.come(i % 100, 0);
-      m.tick(1);
+      due.is("four sales", m.come(i % 100, i % 7), 4);
+      if (i % 7 == 6) m.tick(1);
     }
     due.is("996 sales", m.count(2), 996);
-    due.is("one more on the other page", m.come(0, 1), 1);
+    m.tick(1);
+    due.is("one more on the small page", m.come(0, 7), 1);
     due.is("four more would be 1001", m.come(0, 0), FULL);
     due.is("BAD ahead of FULL", m.come(-1, 0), BAD);
     m.tick(1);
@@ -116,14 +118,27 @@ public final class SellingTest {
     due.is("best is not FULL", m.best(0, 0), 0);
     due.is("give is not FULL", m.give(0, 0, 3), 3);
     for (int i = 0; i < 3; i++) {
-      due.is("up to 1000", m.come(0, 1), 1);
+      due.is("up to 1000", m.come(0, 7), 1);
       m.tick(1);
     }
     due.is("1000 sales", m.count(2), 1000);
-    due.is("full", m.come(0, 1), FULL);
-    due.is("the last one", m.sale(999, 2), 1);
+    due.is("full", m.come(0, 7), FULL);
+    due.is("the last one", m.sale(999, 2), 7);
     due.is("none beyond", m.sale(1000, 2), BAD);
     due.is("nothing changed", m.count(2), 1000);
+    fourUpTo1000();
+  }
+
+  private static void fourUpTo1000() {
+    NoticeMarket m = new NoticeMarket();
+    for (int page = 0; page < 5; page++) m.page(((100 * 128 + 100) * 128 + 100) * 128 + 100);
+    for (int c = 0; c < 4; c++) m.campaign(20, 0, 0);
+    for (int i = 0; i < 250; i++) {
+      due.is("four sales", m.come(i % 100, i % 5), 4);
+      if (i % 5 == 4) m.tick(1);
+    }
+    due.is("just 1000", m.count(2), 1000);
+    due.is("full", m.come(0, 0), FULL);
   }
 
   private static void promise13LossPrices() {

@@ -12,6 +12,7 @@ public final class WhoThereIsTest {
     promise4Wish();
     promise5Budget();
     promise6Cap();
+    promise6CapAtFirst();
     promise7Apart();
     promise8Promise();
     promise8FarDays();
@@ -174,6 +175,21 @@ public final class WhoThereIsTest {
     due.is("one a tick", m.why(0, 7, 0), 0);
     m.cap(0, 1, 4);
     due.is("a SPAN that reaches back", m.why(0, 7, 0), 3);
+  }
+
+  /** Eight showings a tick are the most there can be, so a CAP of 9 hinders only a longer SPAN. */
+  private static void promise6CapAtFirst() {
+    NoticeMarket m = new NoticeMarket();
+    for (int page = 0; page < 8; page++) m.page(100);
+    m.campaign(20, 0, 0);
+    for (int i = 0; i < 3; i++) {
+      for (int page = 0; page < 8; page++) due.is("at first no cap is reached", m.come(4, page), 1);
+      m.tick(1);
+    }
+    m.cap(0, 9, 2);
+    due.is("8 of the tick ahead", m.come(4, 0), 1);
+    due.is("9", m.why(0, 4, 1), 3);
+    due.is("not of another reader", m.why(0, 5, 1), 0);
   }
 
   private static void promise7Apart() {
