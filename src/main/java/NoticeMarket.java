@@ -528,7 +528,9 @@ public final class NoticeMarket {
 
         /** So many times the chance, the rest away. */
         long chanceOf(long times) {
-            return times * (presses - pressesNow + 1) / (shows - showsNow + 20);
+            int outOf = shows - showsNow + 20;
+            if (outOf <= 0) return 0L;
+            return times * (presses - pressesNow + 1) / outOf;
         }
 
         int showsTo(int reader, int afterTick) {

@@ -1,6 +1,7 @@
 /** Counts and prints the calls whose answer is not the one that is due. */
 final class Due {
   private final String test;
+  private String sentence = "";
   private int asked = 0;
   private int wrong = 0;
 
@@ -8,11 +9,16 @@ final class Due {
     this.test = test;
   }
 
+  /** The document's words that the next answers are due by; they are printed with an answer that is wrong. */
+  void says(String words) {
+    sentence = "'" + words + "': ";
+  }
+
   void is(String call, long got, long want) {
     asked++;
     if (got == want) return;
     wrong++;
-    System.out.println(test + ": " + call + " answered " + got + ", due is " + want);
+    System.out.println(test + ": " + sentence + call + " answered " + got + ", due is " + want);
   }
 
   void isTrue(String what, boolean holds) {
