@@ -129,20 +129,13 @@ public final class OutcomeTest {
     int tick = 0;
     for (int i = 0; i < 20; i++) {
       for (int reader = 0; reader < 100; reader += 11) {
-        due.is("draw 0", m.draw(0, reader), drawn(tick, reader, 0));
-        due.is("draw 1", m.draw(1, reader), drawn(tick, reader, 1));
+        due.is("draw 0", m.draw(0, reader), Setup.drawn(tick, reader, 0));
+        due.is("draw 1", m.draw(1, reader), Setup.drawn(tick, reader, 1));
       }
       tick = m.tick(1 + 5 * i);
     }
     for (int i = 0; i < 70; i++) tick = m.tick(100);
-    due.is("late", m.draw(1, 99), drawn(tick, 99, 1));
-  }
-
-  /** With longs, so that it is told in another way than the class does. */
-  private static int drawn(long tick, long reader, long c) {
-    long h = tick * 40503 + reader * 9973 + c * 7919;
-    long mixed = (h ^ (h >> 7)) * 668265263L & 0xFFFFFFFFL;
-    return (int) ((mixed >> 16) % 1000);
+    due.is("late", m.draw(1, 99), Setup.drawn(tick, 99, 1));
   }
 
   private static void promise23Income() {

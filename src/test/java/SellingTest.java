@@ -26,13 +26,6 @@ public final class SellingTest {
     due.end();
   }
 
-  /** A campaign of SORT BID with a budget that lasts. */
-  private static int bidder(NoticeMarket m, int how, int bid) {
-    int c = m.campaign(how, 0, bid);
-    m.budget(c, 1000000, 1000000);
-    return c;
-  }
-
   private static void promise12Tick() {
     NoticeMarket m = new NoticeMarket();
     int[] wrong = {0, -1, 101, LEAST, MOST};
@@ -51,7 +44,7 @@ public final class SellingTest {
   private static void ticksGoOneByOne() {
     NoticeMarket m = new NoticeMarket();
     m.page(100);
-    bidder(m, 1, 100);
+    Setup.bidder(m, 1, 100);
     m.budget(0, 100, 1000);
     m.pace(10, 25);
     m.tick(1);
@@ -60,7 +53,7 @@ public final class SellingTest {
     due.is("paced down at 10 and 20, up from 30 on, free at 27", m.told(0, 5), 1000);
     NoticeMarket k = new NoticeMarket();
     k.page(100);
-    bidder(k, 1, 100);
+    Setup.bidder(k, 1, 100);
     k.budget(0, 100, 1000);
     k.pace(10, 9);
     k.come(0, 0);
@@ -76,8 +69,8 @@ public final class SellingTest {
     due.is("no campaigns", m.come(0, 0), 0);
     int[][] wrong = {{-1, 0}, {100, 0}, {0, -1}, {0, 1}, {LEAST, 0}, {0, MOST}};
     for (int[] w : wrong) due.is("come " + w[0] + " " + w[1], m.come(w[0], w[1]), BAD);
-    bidder(m, 0, 10);
-    bidder(m, 0, 33);
+    Setup.bidder(m, 0, 10);
+    Setup.bidder(m, 0, 33);
     m.campaign(20, 0, 0);
     due.is("three sales", m.come(5, 0), 3);
     int[][] sales = {{1, 33}, {0, 4}, {2, 0}};
@@ -145,9 +138,9 @@ public final class SellingTest {
     NoticeMarket m = new NoticeMarket();
     m.page(100 * 128 + 50);
     m.rule(1);
-    bidder(m, 0, 100);
-    bidder(m, 0, 60);
-    bidder(m, 0, 41);
+    Setup.bidder(m, 0, 100);
+    Setup.bidder(m, 0, 60);
+    Setup.bidder(m, 0, 41);
     m.campaign(10, 0, 1);
     m.come(0, 0);
     due.is("60 + 20.5 - 30 is 50.5", m.sale(0, 5), 50);
@@ -170,10 +163,10 @@ public final class SellingTest {
     NoticeMarket m = new NoticeMarket();
     m.page(100 * 128 + 100);
     m.rule(1);
-    bidder(m, 0, 90);
-    bidder(m, 0, 50);
-    bidder(m, 0, 45);
-    bidder(m, 0, 30);
+    Setup.bidder(m, 0, 90);
+    Setup.bidder(m, 0, 50);
+    Setup.bidder(m, 0, 45);
+    Setup.bidder(m, 0, 30);
     m.apart(0, 1, 1);
     m.apart(0, 2, 1);
     due.is("90 and 30 beat 50 and 45", m.best(1, 0), 120000000L);
@@ -186,16 +179,16 @@ public final class SellingTest {
     NoticeMarket m = new NoticeMarket();
     m.page(50);
     m.rule(1);
-    bidder(m, 0, 1);
-    bidder(m, 0, 1);
+    Setup.bidder(m, 0, 1);
+    Setup.bidder(m, 0, 1);
     m.come(0, 0);
     due.is("0.5 away: 0", m.sale(0, 5), 0);
     due.is("the lesser number", m.sale(0, 4), 0);
     NoticeMarket k = new NoticeMarket();
     k.page(1);
     k.rule(1);
-    bidder(k, 0, 999);
-    bidder(k, 0, 998);
+    Setup.bidder(k, 0, 999);
+    Setup.bidder(k, 0, 998);
     k.come(0, 0);
     due.is("9.98 of at most 9", k.sale(0, 5), 9);
   }
@@ -240,8 +233,8 @@ public final class SellingTest {
   private static void promise14Throttle() {
     NoticeMarket m = new NoticeMarket();
     m.page(100);
-    bidder(m, 0, 1);
-    bidder(m, 0, 1);
+    Setup.bidder(m, 0, 1);
+    Setup.bidder(m, 0, 1);
     m.come(0, 0);
     m.budget(0, 0, 1000);
     m.pace(10, 50);
@@ -267,8 +260,8 @@ public final class SellingTest {
   private static void promise14TakenBack() {
     NoticeMarket m = new NoticeMarket();
     m.page(100);
-    bidder(m, 0, 10);
-    bidder(m, 0, 5);
+    Setup.bidder(m, 0, 10);
+    Setup.bidder(m, 0, 5);
     m.apart(0, 1, 1);
     m.budget(0, 10, 10);
     m.cap(0, 1, 1000);
@@ -308,7 +301,7 @@ public final class SellingTest {
   private static void promise15ByPress() {
     NoticeMarket m = new NoticeMarket();
     m.page(7);
-    bidder(m, 1, 3);
+    Setup.bidder(m, 1, 3);
     due.is("210000 / 20", m.best(0, 0), 10500);
     m.come(0, 0);
     m.press(0);
@@ -329,7 +322,7 @@ public final class SellingTest {
   private static void promise16Ties() {
     NoticeMarket m = new NoticeMarket();
     m.page((50 * 128 + 50) * 128 + 50);
-    for (int c = 0; c < 4; c++) bidder(m, 0, 10);
+    for (int c = 0; c < 4; c++) Setup.bidder(m, 0, 10);
     for (int place = 0; place < 3; place++) due.is("the lesser first", m.give(0, 0, place), place);
     m.stop(1, 1);
     int[] then = {0, 2, 3};
@@ -343,7 +336,7 @@ public final class SellingTest {
     NoticeMarket k = new NoticeMarket();
     k.page((10 * 128 + 50) * 128 + 50);
     k.campaign(20, 0, 0);
-    bidder(k, 0, 10);
+    Setup.bidder(k, 0, 10);
     int[] worth = {0, 1, NOT};
     for (int place = 0; place < 3; place++) due.is("0 ahead of 1", k.give(0, 0, place), worth[place]);
     sumAheadOfPlaces();
@@ -352,14 +345,14 @@ public final class SellingTest {
   private static void sumAheadOfPlaces() {
     NoticeMarket m = new NoticeMarket();
     m.page((100 * 128 + 100) * 128 + 100);
-    bidder(m, 0, 3);
-    bidder(m, 0, 1);
-    bidder(m, 0, 1);
+    Setup.bidder(m, 0, 3);
+    Setup.bidder(m, 0, 1);
+    Setup.bidder(m, 0, 1);
     m.campaign(20, 0, 0);
     for (int c = 1; c < 4; c++) m.apart(0, c, 1);
     due.is("3 alone beats 1 and 1 and 0", m.best(0, 0), 3000000L);
     due.is("it is alone", m.give(0, 0, 1), NOT);
-    bidder(m, 0, 1);
+    Setup.bidder(m, 0, 1);
     due.is("3 and 1 beat 1 and 1 and 1", m.best(0, 0), 4000000L);
     m.apart(0, 4, 1);
     due.is("of 3 and 1 + 1 + 1 the most places", m.give(0, 0, 0), 1);
@@ -368,10 +361,10 @@ public final class SellingTest {
   private static void promise16Apart() {
     NoticeMarket m = new NoticeMarket();
     m.page(((100 * 128 + 90) * 128 + 80) * 128 + 70);
-    bidder(m, 0, 9);
-    bidder(m, 0, 9);
-    bidder(m, 0, 8);
-    bidder(m, 0, 7);
+    Setup.bidder(m, 0, 9);
+    Setup.bidder(m, 0, 9);
+    Setup.bidder(m, 0, 8);
+    Setup.bidder(m, 0, 7);
     m.campaign(20, 0, 0);
     m.apart(0, 1, 1);
     m.rule(1);
@@ -405,8 +398,8 @@ public final class SellingTest {
     m.page(100);
     m.page(50 * 128 + 80);
     m.tick(37);
-    bidder(m, 0, 10);
-    bidder(m, 1, 1000);
+    Setup.bidder(m, 0, 10);
+    Setup.bidder(m, 1, 1000);
     m.come(64, 1);
     int[][] want = {{37, 64, 1, 0, 0, 5, 0}, {37, 64, 1, 1, 1, 800, 1}};
     for (int i = 0; i < 2; i++) {
@@ -430,7 +423,7 @@ public final class SellingTest {
     NoticeMarket m = new NoticeMarket();
     due.is("no sale", m.press(0), BAD);
     m.page(100);
-    bidder(m, 1, 40);
+    Setup.bidder(m, 1, 40);
     m.come(0, 0);
     due.is("sale 1", m.press(1), BAD);
     due.is("sale -1", m.press(-1), BAD);
@@ -460,7 +453,7 @@ public final class SellingTest {
   private static void promise18ByShowing() {
     NoticeMarket m = new NoticeMarket();
     m.page((100 * 128 + 100) * 128 + 100);
-    bidder(m, 0, 40);
+    Setup.bidder(m, 0, 40);
     m.campaign(10, 0, 30);
     m.campaign(20, 0, 0);
     m.pace(0, 3);
@@ -484,8 +477,8 @@ public final class SellingTest {
     NoticeMarket m = new NoticeMarket();
     due.is("no sale", m.refund(0), BAD);
     m.page(100 * 128 + 100);
-    bidder(m, 0, 40);
-    bidder(m, 1, 30);
+    Setup.bidder(m, 0, 40);
+    Setup.bidder(m, 1, 30);
     m.come(0, 0);
     due.is("sale 2", m.refund(2), BAD);
     due.is("sale -1", m.refund(-1), BAD);
@@ -521,8 +514,8 @@ public final class SellingTest {
   private static void promise19RefundOfEarlierDays() {
     NoticeMarket m = new NoticeMarket();
     m.page(100 * 128 + 100);
-    bidder(m, 0, 40);
-    bidder(m, 1, 30);
+    Setup.bidder(m, 0, 40);
+    Setup.bidder(m, 1, 30);
     m.pace(0, 200);
     m.tick(99);
     m.come(0, 0);
