@@ -14,7 +14,7 @@ public final class NoticeMarket {
     private static final int BIDDING = 0, PROMISED = 1, HOUSE = 2;
     private static final int FIRST = 0, LOSS = 1;
     private static final int SHOWN = 0, WAITING = 1, PRESSED = 2, TAKEN_BACK = 3;
-    private static final int BAD_TOLD = -2000000, NONE = -1, NEVER = Integer.MAX_VALUE;
+    private static final int BAD_TOLD = -2000000, NONE = -1;
     private static final int WORTH_OF_COIN = 1000000, MILLION = 1000000;
     private static final long BEHIND_WORTH = 1000000000L;
 
@@ -35,7 +35,7 @@ public final class NoticeMarket {
     private int paceTicks;
     private int pressWait = 50;
     /** No sale that waits becomes free at a TICK up to this one; spares most ticks the search for them. */
-    private int noneFreeBy = NEVER;
+    private int noneFreeBy = LAST_TICK;
 
     public NoticeMarket() {
     }
@@ -312,7 +312,7 @@ public final class NoticeMarket {
     }
 
     private void freeLateSales() {
-        noneFreeBy = NEVER;
+        noneFreeBy = LAST_TICK;
         for (int i = 0; i < saleCount; i++) {
             Sale of = sales[i];
             if (of.state != WAITING) continue;

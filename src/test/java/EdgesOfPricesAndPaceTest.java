@@ -17,6 +17,7 @@ public final class EdgesOfPricesAndPaceTest {
     waitEdges();
     waitAsItWas();
     spentIfPressedByThen();
+    waitAtTheLastTick();
     freeOfEarlierDay();
     countForTheDayOfTheSale();
     paceNeverAtFirst();
@@ -245,6 +246,27 @@ public final class EdgesOfPricesAndPaceTest {
       due.is("spent it stays", m.told(0, 0), tick <= 5 ? 10 : 0);
       due.is("state", m.sale(0, 6), tick <= 5 ? 2 : 0);
     }
+  }
+
+  /** Sales whose time ends at TICK 9999, 10000 and 10001: only the first can become free. */
+  private static void waitAtTheLastTick() {
+    due.says("else it is free again, as soon as TICK is more");
+    NoticeMarket m = Setup.market(100);
+    Setup.bidder(m, 1, 10);
+    for (int tick = 9949; tick <= 9951; tick++) {
+      Setup.tickTo(m, tick);
+      m.come(0, 0);
+    }
+    Setup.tickTo(m, 9999);
+    for (int sale = 0; sale < 3; sale++) due.is("sale " + sale + " waits", m.sale(sale, 6), 1);
+    due.is("all three are kept aside", m.told(0, 2), 30);
+    due.is("the last TICK", m.tick(1), 10000);
+    due.is("TICK is more", m.sale(0, 6), 0);
+    due.is("too late", m.press(0), NOT);
+    due.is("two are kept aside", m.told(0, 2), 20);
+    for (int sale = 1; sale < 3; sale++) due.is("TICK is not more for sale " + sale, m.press(sale), 1);
+    due.is("nothing is kept aside", m.told(0, 2), 0);
+    due.is("two are spent", m.told(0, 0), 20);
   }
 
   private static void freeOfEarlierDay() {

@@ -88,7 +88,18 @@ public final class RulesTest {
     for (String part : parts) due.isTrue("no " + part, !code.contains(part));
     due.isTrue("at most twelve classes", count(code, "\\bclass\\s+\\w+") <= 12);
     due.is("one public class", count(code, "\\bpublic\\s+(final\\s+)?class\\b"), 1);
+    onlyListedLibrary(code);
     methodsAreShort(code);
+  }
+
+  /** The class needs so little of what the rules list that each name can be told here. */
+  private static void onlyListedLibrary(String code) {
+    Set<String> own = new TreeSet<>(Set.of("NoticeMarket", "Math"));
+    for (Class<?> inside : NoticeMarket.class.getDeclaredClasses()) own.add(inside.getSimpleName());
+    Matcher types = Pattern.compile("\\b[A-Z]\\w*[a-z]\\w*").matcher(code);
+    while (types.find()) due.isTrue(types.group() + " is the class's own or listed", own.contains(types.group()));
+    Matcher uses = Pattern.compile("\\bMath\\s*\\.\\s*\\w+").matcher(code);
+    while (uses.find()) due.isTrue(uses.group() + " is listed", Set.of("Math.max", "Math.min").contains(uses.group()));
   }
 
   private static int count(String code, String pattern) {
